@@ -1,0 +1,95 @@
+import java.lang.reflect.InvocationTargetException;
+import java.lang.reflect.Method;
+import java.util.Arrays;
+
+/** A new Yarncourt that is called by texts such as "begin(0, 4, 100)"; every wrong answer is printed and counted. */
+final class Site {
+    private static final int MOST_CALLS = 512;
+    private static int wrong = 0;
+    private static int checked = 0;
+
+    private final String test;
+    private final Yarncourt court = new Yarncourt();
+    private int calls = 0;
+
+    Site(String test) {
+        this.test = test;
+    }
+
+    Site due(int want, String call) {
+        return expect(String.valueOf(want), call);
+    }
+
+    /** Each of the calls throws IndexOutOfBoundsException. */
+    Site noSuch(String... calls) {
+        for (String call : calls) {
+            expect("IndexOutOfBoundsException", call);
+        }
+        return this;
+    }
+
+    /** Each of the calls throws IllegalArgumentException. */
+    Site outOfRange(String... calls) {
+        for (String call : calls) {
+            expect("IllegalArgumentException", call);
+        }
+        return this;
+    }
+
+    /** Each of the calls throws IllegalStateException. */
+    Site refused(String... calls) {
+        for (String call : calls) {
+            expect("IllegalStateException", call);
+        }
+        return this;
+    }
+
+    Site expect(String want, String call) {
+        calls++;
+        if (calls > MOST_CALLS) {
+            fail(test, call + " is call " + calls + ", and nothing is promised for it");
+        }
+        check(test + ", call " + calls + ": " + call, want, outcome(call));
+        return this;
+    }
+
+    /** What the call returns, or the simple name of what it throws. */
+    private String outcome(String call) {
+        int open = call.indexOf('(');
+        String name = call.substring(0, open);
+        String inside = call.substring(open + 1, call.length() - 1);
+        Object[] arguments = inside.isEmpty() ? new Object[0]
+                : Arrays.stream(inside.split(",")).map(text -> Integer.valueOf(text.trim())).toArray();
+        Class<?>[] kinds = new Class<?>[arguments.length];
+        Arrays.fill(kinds, int.class);
+        try {
+            Method method = Yarncourt.class.getMethod(name, kinds);
+            return String.valueOf(method.invoke(court, arguments));
+        } catch (InvocationTargetException e) {
+            return e.getCause().getClass().getSimpleName();
+        } catch (ReflectiveOperationException e) {
+            return e.toString();
+        }
+    }
+
+    static void check(String what, Object want, Object got) {
+        checked++;
+        if (!want.equals(got)) {
+            fail(what, "answered " + got + ", due is " + want);
+        }
+    }
+
+    static void fail(String what, String why) {
+        wrong++;
+        if (wrong <= 40) {
+            System.out.println(what + ": " + why);
+        }
+    }
+
+    static void end() {
+        System.out.println(checked + " answers looked at, " + wrong + " wrong");
+        if (wrong != 0 || checked == 0) {
+            System.exit(1);
+        }
+    }
+}
