@@ -27,6 +27,18 @@ final class Model {
     private final List<int[]> lots = new ArrayList<>();
     private final List<int[]> projects = new ArrayList<>();
 
+    int patternCount() {
+        return patterns.size();
+    }
+
+    int lotCount() {
+        return lots.size();
+    }
+
+    int projectCount() {
+        return projects.size();
+    }
+
     private static boolean in(int value, int least, int most) {
         return least <= value && value <= most;
     }

@@ -8,10 +8,11 @@ public final class ModelTest {
     private static final int CALLS = 512;
     private static final String[] KINDS = {"begin", "line", "line", "line", "anew", "publish", "publish", "original",
         "rows", "stitch", "stitch", "need", "buy", "buy", "buy", "rule", "money", "lot", "swap", "left", "project",
-        "project", "take", "knit", "knit", "progress"};
+        "project", "project", "take", "knit", "knit", "progress"};
 
     private static long sequence = 0;
     private static int wildness = 0;
+    /** 0 for patterns that are mostly alike, so that copies are found; 1 for a few kinds, 2 for all. */
     private static int variety = 0;
 
     public static void main(String[] args) {
@@ -50,31 +51,35 @@ public final class ModelTest {
         return from(0, 4);
     }
 
-    private static int pattern() {
-        return variety == 0 ? from(0, 3) : from(0, 15);
+    private static int pattern(Model model) {
+        return number(model.patternCount());
+    }
+
+    private static int lotNumber(Model model) {
+        return number(model.lotCount());
+    }
+
+    private static int projectNumber(Model model) {
+        return number(model.projectCount());
+    }
+
+    private static int number(int count) {
+        return count == 0 ? from(0, 0) : from(0, count - 1);
     }
 
     private static int gauge() {
         return from(5, 20);
     }
 
-    private static int lotNumber() {
-        return variety == 0 ? from(0, 3) : from(0, 19);
-    }
-
-    private static int projectNumber() {
-        return variety == 0 ? from(0, 3) : from(0, 11);
-    }
-
     private static void oneCall(Site site, Model model, int call) {
-        String kind = call < 10 ? "begin" : call < 30 ? "line" : call < 40 ? "publish" : KINDS[below(KINDS.length)];
+        String kind = call < 4 ? "begin" : call < 12 ? "line" : KINDS[below(KINDS.length)];
         int a = 0;
         int b = 0;
         int c = 0;
         switch (kind) {
             case "begin":
                 a = person();
-                b = variety == 2 ? from(1, 20) : from(2, 3);
+                b = variety == 2 ? from(1, 20) : variety == 1 ? from(2, 3) : from(2, 2);
                 c = from(0, 1000);
                 site.expect(model.begin(a, b, c), text(kind, a, b, c));
                 break;
@@ -82,40 +87,40 @@ public final class ModelTest {
                 line(site, model);
                 break;
             case "anew":
-                a = pattern();
+                a = pattern(model);
                 b = variety == 0 ? 10 : gauge();
                 site.expect(model.anew(a, b), text(kind, a, b));
                 break;
             case "publish":
-                a = pattern();
+                a = pattern(model);
                 site.expect(model.publish(a), text(kind, a));
                 break;
             case "original":
-                a = pattern();
+                a = pattern(model);
                 site.expect(model.original(a), text(kind, a));
                 break;
             case "rows":
-                a = pattern();
+                a = pattern(model);
                 site.expect(model.rows(a), text(kind, a));
                 break;
             case "stitch":
-                a = pattern();
+                a = pattern(model);
                 b = below(4) == 0 ? from(0, 39) : from(0, 5);
                 c = below(4) == 0 ? from(0, 39) : from(0, 10);
                 site.expect(model.stitch(a, b, c), text(below(2) == 0 ? "stitch" : "stitchByWork", a, b, c));
                 break;
             case "need":
-                a = pattern();
+                a = pattern(model);
                 b = gauge();
                 site.expect(model.need(a, b), text(kind, a, b));
                 break;
             case "buy":
-                a = pattern();
+                a = pattern(model);
                 b = person();
                 site.expect(model.buy(a, b), text(kind, a, b));
                 break;
             case "rule":
-                a = pattern();
+                a = pattern(model);
                 site.expect(model.rule(a), text(kind, a));
                 break;
             case "money":
@@ -129,11 +134,11 @@ public final class ModelTest {
     }
 
     private static void line(Site site, Model model) {
-        int pattern = pattern();
-        int knits = variety == 2 ? from(0, 9) : from(0, 2);
-        int purls = variety == 2 ? from(0, 9) : from(0, 1);
-        int shaping = variety == 2 ? from(-3, 3) : from(0, 1);
-        int times = below(3) == 0 ? from(1, 20) : from(1, 2);
+        int pattern = pattern(model);
+        int knits = variety == 2 ? from(0, 9) : variety == 1 ? from(0, 2) : from(1, 1);
+        int purls = variety == 2 ? from(0, 9) : variety == 1 ? from(0, 1) : from(1, 1);
+        int shaping = variety == 2 ? from(-3, 3) : variety == 1 ? from(0, 1) : from(0, 0);
+        int times = variety == 2 && below(2) == 0 ? from(1, 20) : from(1, 2);
         site.expect(model.line(pattern, knits, purls, shaping, times), text("line", pattern, knits, purls, shaping, times));
     }
 
@@ -149,32 +154,32 @@ public final class ModelTest {
                 site.expect(model.lot(a, b, c), text(kind, a, b, c));
                 break;
             case "swap":
-                a = lotNumber();
-                b = lotNumber();
+                a = lotNumber(model);
+                b = lotNumber(model);
                 site.expect(model.swap(a, b), text(kind, a, b));
                 break;
             case "left":
-                a = lotNumber();
+                a = lotNumber(model);
                 site.expect(model.left(a), text(kind, a));
                 break;
             case "project":
                 a = person();
-                b = pattern();
-                c = lotNumber();
+                b = pattern(model);
+                c = lotNumber(model);
                 site.expect(model.project(a, b, c), text(kind, a, b, c));
                 break;
             case "take":
-                a = projectNumber();
-                b = lotNumber();
+                a = projectNumber(model);
+                b = lotNumber(model);
                 site.expect(model.take(a, b), text(kind, a, b));
                 break;
             case "knit":
-                a = projectNumber();
+                a = projectNumber(model);
                 b = below(2) == 0 ? from(1, 3) : from(1, 40);
                 site.expect(model.knit(a, b), text(kind, a, b));
                 break;
             default:
-                a = projectNumber();
+                a = projectNumber(model);
                 site.expect(model.progress(a), text(kind, a));
                 break;
         }

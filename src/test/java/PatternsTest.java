@@ -8,6 +8,7 @@ public final class PatternsTest {
         lineOrder();
         anew();
         anewBounds();
+        anewOfSixLines();
         anewOfAnew();
         anewOrder();
         publish();
@@ -105,6 +106,20 @@ public final class PatternsTest {
         site.due(6, "anew(4, 13)").due(26, "rows(6)").due(1, "stitch(6, 0, 18)").due(0, "stitch(6, 0, 19)");
         site.due(7, "anew(4, 5)").due(10, "rows(7)").due(1, "stitch(7, 0, 6)").due(0, "stitch(7, 0, 7)");
         site.due(21, "line(4, 1, 0, 0, 1)").refused("anew(4, 20)").due(8, "anew(4, 19)").due(39, "rows(8)");
+        // 13 times become 19 and 15 times 22, one row too many; at gauge 14 they become 18 and 21.
+        site.due(9, "begin(0, 15, 0)").due(13, "line(9, 1, 0, 0, 13)").due(28, "line(9, 0, 1, 0, 15)");
+        site.refused("anew(9, 15)").due(10, "anew(9, 14)").due(39, "rows(10)").due(1, "stitch(10, 17, 0)").due(2, "stitch(10, 18, 0)");
+    }
+
+    private static void anewOfSixLines() {
+        Site site = new Site("promise 4, six lines");
+        site.due(0, "begin(2, 3, 0)");
+        for (int count = 1; count <= 6; count++) {
+            site.due(count, "line(0, " + count + ", 1, 1, 1)");
+        }
+        site.due(1, "anew(0, 20)").due(12, "rows(1)").refused("line(1, 1, 1, 0, 1)");
+        // The last row comes of the sixth line: width 6 + 11.
+        site.due(2, "stitch(1, 11, 6)").due(1, "stitch(1, 11, 7)").due(1, "stitch(1, 11, 16)").due(0, "stitch(1, 11, 17)");
     }
 
     private static void anewOfAnew() {
@@ -160,6 +175,9 @@ public final class PatternsTest {
         site.due(7, "begin(4, 4, 0)").due(2, "line(7, 2, 2, 0, 2)").due(3, "line(7, 2, 1, 0, 1)").due(7, "publish(7)");
         // Only the first row is another one.
         site.due(8, "begin(4, 4, 0)").due(1, "line(8, 0, 1, 0, 1)").due(3, "line(8, 2, 2, 0, 2)").due(8, "publish(8)");
+        // Only the first stitch of all is another one.
+        site.due(9, "begin(4, 4, 0)").due(1, "line(9, 1, 9, 0, 1)").due(9, "publish(9)");
+        site.due(10, "begin(4, 4, 0)").due(1, "line(10, 0, 9, 0, 1)").due(10, "publish(10)");
     }
 
     private static void originalOfOtherWidths() {

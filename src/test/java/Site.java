@@ -66,10 +66,18 @@ final class Site {
             Method method = Yarncourt.class.getMethod(name, kinds);
             return String.valueOf(method.invoke(court, arguments));
         } catch (InvocationTargetException e) {
-            return e.getCause().getClass().getSimpleName();
+            return thrown(e.getCause());
         } catch (ReflectiveOperationException e) {
             return e.toString();
         }
+    }
+
+    /** Only what the program's own code throws is an answer; the machine and the library must never throw in it. */
+    private static String thrown(Throwable exception) {
+        String name = exception.getClass().getSimpleName();
+        StackTraceElement[] trace = exception.getStackTrace();
+        boolean own = trace.length > 0 && trace[0].getClassName().startsWith("Yarncourt");
+        return own ? name : name + " that the program did not throw itself";
     }
 
     static void check(String what, Object want, Object got) {
