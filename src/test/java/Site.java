@@ -45,15 +45,33 @@ final class Site {
     }
 
     Site expect(String want, String call) {
+        String got = answer(call);
+        check(test + ", call " + calls + ": " + call, want, got);
+        return this;
+    }
+
+    /** The calls answer with numbers, whichever. */
+    Site accepted(String... calls) {
+        for (String call : calls) {
+            String got = answer(call);
+            check(test + ", call " + this.calls + ": " + call + " answered " + got, true, isNumber(got));
+        }
+        return this;
+    }
+
+    static boolean isNumber(String answer) {
+        return answer.matches("-?[0-9]+");
+    }
+
+    /** Makes the call, and tells what it returned or the simple name of what it threw. */
+    String answer(String call) {
         calls++;
         if (calls > MOST_CALLS) {
             fail(test, call + " is call " + calls + ", and nothing is promised for it");
         }
-        check(test + ", call " + calls + ": " + call, want, outcome(call));
-        return this;
+        return outcome(call);
     }
 
-    /** What the call returns, or the simple name of what it throws. */
     private String outcome(String call) {
         int open = call.indexOf('(');
         String name = call.substring(0, open);
