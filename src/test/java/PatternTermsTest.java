@@ -317,6 +317,9 @@ public final class PatternTermsTest {
         new Scene("The same stitches, the first one too.", "begin(0, 4, 0)", "line(0, 1, 9, 0, 1)", "publish(0)",
                 "begin(1, 4, 0)",
                 "line(1, 0, 9, 0, 1)").open().due(1, "publish(1)");
+        // Only the last place of the last row, 39, is another one: the row is 39 wide, and 40.
+        new Scene("The same stitches, the last one too.", "begin(0, 18, 0)", "line(0, 1, 0, 3, 7)", "line(0, 1, 0, 0, 2)",
+                "publish(0)", "begin(1, 18, 0)", "line(1, 1, 0, 3, 7)", "line(1, 1, 0, 1, 2)").open().due(1, "publish(1)");
         // As many of each in all, but in other rows.
         scene.with(middle, "line(1, 2, 2, 0, 1)", last).open().due(1, "publish(1)");
     }

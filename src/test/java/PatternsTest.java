@@ -190,7 +190,7 @@ public final class PatternsTest {
         // A width that stays 1 makes the same chart with shaping or without.
         site.due(5, "begin(1, 1, 0)").due(3, "line(5, 1, 0, -3, 3)").due(5, "publish(5)");
         site.due(6, "begin(2, 1, 0)").due(3, "line(6, 9, 9, 0, 3)").due(5, "publish(6)");
-        // Only the last stitch of a row that is 40 wide is another one.
+        // Only the last row, that is 40 wide, is another one.
         for (int number = 7; number < 10; number++) {
             site.due(number, "begin(0, 20, 0)").due(7, "line(" + number + ", 1, 0, 3, 7)");
         }
