@@ -109,7 +109,7 @@ final class Scene {
             if (untouched == null) {
                 untouched = looked(open());
             }
-            Site.check(sentence + ", after " + call + ": " + difference(untouched, touched), untouched, touched);
+            Site.check(sentence + ", after " + call, "nothing changed", difference(untouched, touched));
         }
         return this;
     }
@@ -120,7 +120,7 @@ final class Scene {
                 return "without it " + untouched.get(i) + ", with it " + touched.get(i);
             }
         }
-        return "no difference";
+        return untouched.size() == touched.size() ? "nothing changed" : "another number of patterns";
     }
 
     /** All that can be asked, then calls that show what no question shows: owners, buyers, bars, room for more. */
@@ -130,6 +130,10 @@ final class Scene {
             lookAtPattern(site, seen, pattern);
         }
         askAll(site, seen);
+        String copy = ask(site, seen, "anew(0, 10)");
+        if (Site.isNumber(copy)) {
+            ask(site, seen, "publish(" + copy + ")");
+        }
         each(site, seen, "line(#, 1, 1, 1, 1)", MOST_PATTERNS);
         each(site, seen, "need(#, 5)", MOST_PATTERNS);
         each(site, seen, "publish(#)", MOST_PATTERNS);
@@ -140,7 +144,6 @@ final class Scene {
         each(site, seen, "knit(#, 40)", MOST_PROJECTS);
         each(site, seen, "swap(0, #)", MOST_LOTS);
         askAll(site, seen);
-        ask(site, seen, "anew(0, 10)");
         ask(site, seen, "begin(0, 1, 0)");
         ask(site, seen, "lot(0, 5, 1)");
         return seen;
