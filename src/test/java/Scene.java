@@ -63,6 +63,17 @@ final class Scene {
         return new Site(sentence).accepted(setUp.toArray(new String[0]));
     }
 
+    /** How many calls bring a site to the scene. */
+    int calls() {
+        return setUp.size();
+    }
+
+    /** The calls, made one after the other, are answered with numbers and change nothing. */
+    Scene leavesAllAsItWas(String... questions) {
+        checkUnchanged(open().accepted(questions), String.join(", ", questions));
+        return this;
+    }
+
     /** Each of the calls, made alone, throws IndexOutOfBoundsException and changes nothing. */
     Scene noSuch(String... calls) {
         return refusals(INDEX, calls);
@@ -104,14 +115,17 @@ final class Scene {
 
     private Scene refusals(String exception, String... calls) {
         for (String call : calls) {
-            Site site = open().expect(exception, call);
-            List<String> touched = looked(site);
-            if (untouched == null) {
-                untouched = looked(open());
-            }
-            Site.check(sentence + ", after " + call, "nothing changed", difference(untouched, touched));
+            checkUnchanged(open().expect(exception, call), call);
         }
         return this;
+    }
+
+    private void checkUnchanged(Site site, String calls) {
+        List<String> touched = looked(site);
+        if (untouched == null) {
+            untouched = looked(open());
+        }
+        Site.check(sentence + ", after " + calls, "nothing changed", difference(untouched, touched));
     }
 
     private static String difference(List<String> untouched, List<String> touched) {
